@@ -385,7 +385,6 @@ public final class PacketSpreader {
         }
     }
 
-    /** The servers of a balancer's places. */
     private static final class Table {
         int changes;
         private final Lists lists;
@@ -451,7 +450,6 @@ public final class PacketSpreader {
         }
     }
 
-    /** How a balancer holds the servers. */
     private static final class Watch {
         private static final int ENOUGH = 3;
         private static final int DOWN = 10;
@@ -545,7 +543,6 @@ public final class PacketSpreader {
         }
     }
 
-    /** A balancer's entries. */
     private static final class Entries {
         private static final int LIMIT = 8;
         private static final int OPENING_PATIENCE = 4;
@@ -735,7 +732,6 @@ public final class PacketSpreader {
         }
     }
 
-    /** What was on the wire for one segment. */
     private static final class Wire {
         private static final int WORDS = 16;
         private static final int KEPT_AT = 6;

@@ -148,7 +148,8 @@ public final class ModelTest {
             case 2 -> due(call, "share(" + b + ", " + k + ")", x.share(b, k), model.share(b, k));
             case 3 -> due(call, "moved(" + b + ")", x.moved(b), model.moved(b));
             case 4 -> due(call, "held(" + b + ", " + k + ")", x.held(b, k), model.held(b, k));
-            case 5, 6 -> due(call, "entry(" + b + ", ..)", x.entry(b, source, ports), model.entry(b, source, ports));
+            case 5, 6 -> due(call, "entry(" + b + ", " + source + ", " + ports + ")",
+                    x.entry(b, source, ports), model.entry(b, source, ports));
             default -> due(call, "load(" + b + ", " + k + ")", x.load(b, k), model.load(b, k));
         }
     }
