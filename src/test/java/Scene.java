@@ -1,3 +1,5 @@
+import java.util.Arrays;
+
 /** What many tests begin with. */
 final class Scene {
     static final int GREETING = 2;
@@ -8,6 +10,13 @@ final class Scene {
     static final int CLIENT = 0xC0A80005;
 
     private Scene() {
+    }
+
+    /** A new object that has kept a header of the client. */
+    static PacketSpreader ready(int balancers, int servers, int size, int key) {
+        PacketSpreader x = new PacketSpreader(balancers, servers, size, key);
+        offer(x, CLIENT);
+        return x;
     }
 
     static int offer(PacketSpreader x, int source) {
@@ -22,7 +31,7 @@ final class Scene {
     /** The first ports from this one on that the router sends to the balancer while all are live. */
     static int portsTo(PacketSpreader x, int b, int balancers, int from) {
         boolean[] live = new boolean[balancers];
-        java.util.Arrays.fill(live, true);
+        Arrays.fill(live, true);
         int ports = from;
         while (Reference.route(x.digest(CLIENT, ports), live) != b) {
             ports++;
@@ -43,5 +52,15 @@ final class Scene {
         for (int i = 0; i < times; i++) {
             x.probe(b);
         }
+    }
+
+    /** The numbers from 0 to count - 1 that are at the bounds. */
+    static int[] bounds(int count) {
+        return new int[] {0, count - 1};
+    }
+
+    /** Numbers beside 0 .. count - 1, those next to the bounds and the farthest. */
+    static int[] beside(int count) {
+        return new int[] {-1, count, Integer.MIN_VALUE, Integer.MAX_VALUE};
     }
 }

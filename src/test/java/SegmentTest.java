@@ -27,12 +27,6 @@ public final class SegmentTest {
         CHECKS.due("taken() after " + call, x.taken(), taken);
     }
 
-    private static PacketSpreader ready(int balancers, int servers, int size, int key) {
-        PacketSpreader x = new PacketSpreader(balancers, servers, size, key);
-        Scene.offer(x, Scene.CLIENT);
-        return x;
-    }
-
     private static void refusals() {
         PacketSpreader x = new PacketSpreader(1, 1, 7, 0);
         for (int flags = -20; flags < 300; flags++) {
@@ -56,7 +50,7 @@ public final class SegmentTest {
     }
 
     private static void refusalChangesNothing() {
-        PacketSpreader x = ready(1, 1, 7, 0);
+        PacketSpreader x = Scene.ready(1, 1, 7, 0);
         send(x, 1, 0, GREETING, PacketSpreader.WELCOME, 0);
         send(x, 1, 1, DATA, PacketSpreader.TAKEN, 1);
         int[] wire = new int[16];
@@ -80,7 +74,7 @@ public final class SegmentTest {
     private static void routes() {
         int key = 99;
         for (int mask = 1; mask < 16; mask++) {
-            PacketSpreader x = ready(4, 8, 53, key);
+            PacketSpreader x = Scene.ready(4, 8, 53, key);
             boolean[] live = new boolean[4];
             for (int b = 0; b < 4; b++) {
                 live[b] = (mask >> b & 1) == 1;
@@ -97,7 +91,7 @@ public final class SegmentTest {
     }
 
     private static void entryGoesBeforeTable() {
-        PacketSpreader x = ready(1, 2, 101, 4);
+        PacketSpreader x = Scene.ready(1, 2, 101, 4);
         x.power(0, false);
         Scene.probe(x, 0, 3);
         // Held by server 1 now, though its place goes back to server 0 later on.
@@ -114,7 +108,7 @@ public final class SegmentTest {
     }
 
     private static void conversation() {
-        PacketSpreader x = ready(2, 3, 31, 7);
+        PacketSpreader x = Scene.ready(2, 3, 31, 7);
         send(x, 80, 5, DATA, PacketSpreader.REFUSAL, 0);
         send(x, 80, 5, PARTING, PacketSpreader.REFUSAL, 0);
         send(x, 80, 100, GREETING, PacketSpreader.WELCOME, 0);
@@ -131,7 +125,7 @@ public final class SegmentTest {
     }
 
     private static void sequenceWraps() {
-        PacketSpreader x = ready(1, 1, 7, 1);
+        PacketSpreader x = Scene.ready(1, 1, 7, 1);
         send(x, 1, -1, GREETING, PacketSpreader.WELCOME, 0);
         send(x, 1, 0, DATA, PacketSpreader.TAKEN, 1);
         send(x, 1, Integer.MAX_VALUE, GREETING, PacketSpreader.WELCOME, 0);
@@ -142,7 +136,7 @@ public final class SegmentTest {
     }
 
     private static void greetingAgain() {
-        PacketSpreader x = ready(1, 1, 7, 1);
+        PacketSpreader x = Scene.ready(1, 1, 7, 1);
         send(x, 1, 0, GREETING, PacketSpreader.WELCOME, 0);
         send(x, 1, 1, DATA, PacketSpreader.TAKEN, 1);
         send(x, 1, 70, GREETING, PacketSpreader.WELCOME, 0);
@@ -155,7 +149,7 @@ public final class SegmentTest {
     }
 
     private static void breaks() {
-        PacketSpreader x = ready(1, 1, 7, 1);
+        PacketSpreader x = Scene.ready(1, 1, 7, 1);
         send(x, 1, 0, BREAK, PacketSpreader.NOTHING, 0);
         send(x, 1, 0, GREETING, PacketSpreader.WELCOME, 0);
         send(x, 2, 0, GREETING, PacketSpreader.WELCOME, 0);
@@ -167,7 +161,7 @@ public final class SegmentTest {
     }
 
     private static void sessionsAreLimited() {
-        PacketSpreader x = ready(1, 1, 7, 1);
+        PacketSpreader x = Scene.ready(1, 1, 7, 1);
         for (int ports = 1; ports <= 10; ports++) {
             send(x, ports, 0, GREETING, PacketSpreader.WELCOME, 0);
         }
@@ -182,7 +176,7 @@ public final class SegmentTest {
     }
 
     private static void unreachedServer() {
-        PacketSpreader x = ready(1, 1, 7, 1);
+        PacketSpreader x = Scene.ready(1, 1, 7, 1);
         send(x, 1, 0, GREETING, PacketSpreader.WELCOME, 0);
         x.path(0, 0, false);
         send(x, 1, 1, DATA, PacketSpreader.NOTHING, 0);
