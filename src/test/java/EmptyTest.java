@@ -402,6 +402,9 @@ public final class EmptyTest {
             dueSent(x, 1, 1, kind, PacketSpreader.REFUSAL, 0);
             dueSent(x, 2, 0, GREETING, PacketSpreader.WELCOME, 0);
             dueSent(x, 1, 1, kind, PacketSpreader.REFUSAL, 0);
+            Scene.offer(x, Scene.CLIENT + 1);
+            dueSent(x, 2, 1, kind, PacketSpreader.REFUSAL, 0);
+            Scene.offer(x, Scene.CLIENT);
             CHECKS.due("none is made, none is removed", x.load(0, 0), 101);
             dueSent(x, 2, 1, PARTING, PacketSpreader.FAREWELL, 0);
             dueSent(x, 2, 2, kind, PacketSpreader.REFUSAL, 0);

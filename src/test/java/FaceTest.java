@@ -35,9 +35,26 @@ public final class FaceTest {
             CHECKS.due(member + " is there", seen.remove(member), true);
         }
         CHECKS.due("members beside the face " + seen, seen.size(), 0);
+        privateNamesAreNoPublicOnes();
         int both = Modifier.PUBLIC | Modifier.FINAL;
         CHECKS.due("public and final", PacketSpreader.class.getModifiers() & both, both);
         CHECKS.end();
+    }
+
+    private static void privateNamesAreNoPublicOnes() {
+        String face = String.join("\n", FACE);
+        for (Class<?> inside : PacketSpreader.class.getDeclaredClasses()) {
+            noneOfTheFace(face, inside.getDeclaredMethods());
+        }
+        noneOfTheFace(face, PacketSpreader.class.getDeclaredMethods());
+    }
+
+    private static void noneOfTheFace(String face, Method[] methods) {
+        for (Method method : methods) {
+            boolean bears = face.contains(" " + method.getName() + "(");
+            CHECKS.due(method + " bears the name of a public one",
+                    Modifier.isPrivate(method.getModifiers()) && bears, false);
+        }
     }
 
     private static void note(TreeSet<String> seen, Member member, String text) {

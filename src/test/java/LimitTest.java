@@ -40,6 +40,7 @@ public final class LimitTest {
         missesBrokenOff();
         answersBrokenOff();
         entriesForServersHeldDown();
+        allHeldOtherwise();
         patience("OPENING", 4, GREETING);
         patience("OPEN", 16, DATA);
         patience("CLOSING", 2, PARTING);
@@ -48,6 +49,7 @@ public final class LimitTest {
         nextNumber();
         takenAtTheReply();
         lengthOnTheWire();
+        addressesOnTheWire();
         CHECKS.end();
     }
 
@@ -245,6 +247,21 @@ public final class LimitTest {
         CHECKS.due("entry for the other at 3 answers", x.entry(0, Scene.CLIENT, one), 0);
     }
 
+    private static void allHeldOtherwise() {
+        CHECKS.sentence("16: how many servers it holds otherwise than before (none, all)");
+        PacketSpreader x = new PacketSpreader(1, 8, 7, 1);
+        for (boolean on : new boolean[] {false, true}) {
+            for (int k = 0; k < 8; k++) {
+                x.power(k, on);
+            }
+            CHECKS.due("the first probe", x.probe(0), 0);
+            CHECKS.due("the second probe", x.probe(0), 0);
+            CHECKS.due("the third probe", x.probe(0), 8);
+            CHECKS.due("moved(0)", x.moved(0), 7);
+            CHECKS.due("the fourth probe", x.probe(0), 0);
+        }
+    }
+
     private static void patience(String phase, int patience, int flags) {
         CHECKS.sentence("ENTRIES: more than its phase's patience beyond its latest use; " + patience + " for " + phase);
         for (int start = 0; start <= 1000; start += 500) {
@@ -366,6 +383,21 @@ public final class LimitTest {
                 CHECKS.due("wire(0) of " + length, x.wire(0), 0x45000018 + length);
                 CHECKS.due("wire(6) of " + length, x.wire(6), w0);
             }
+        }
+    }
+
+    private static void addressesOnTheWire() {
+        CHECKS.sentence("NUMBERS: that of balancer b 0x0A000100 + b, that of server k 0x0A000200 + k");
+        for (int b = 0; b < 4; b++) {
+            PacketSpreader x = Scene.ready(4, 8, 7, 1);
+            x.segment(Scene.portsTo(x, b, 4, 1), 0, GREETING);
+            CHECKS.due("wire(3) through " + b, x.wire(3), 0x0A000100 + b);
+        }
+        for (int k = 0; k < 8; k++) {
+            PacketSpreader x = Scene.ready(1, 8, 11, 1);
+            x.segment(Scene.portsFor(x, k, 11, 1), 0, GREETING);
+            CHECKS.due("wire(4) to " + k, x.wire(4), 0x0A000200 + k);
+            CHECKS.due("wire(14) from " + k, x.wire(14), Scene.SERVICE);
         }
     }
 }

@@ -17,6 +17,7 @@ public final class SegmentTest {
         breaks();
         sessionsAreLimited();
         unreachedServer();
+        sourceAloneTellsTheClient();
         CHECKS.end();
     }
 
@@ -189,6 +190,16 @@ public final class SegmentTest {
         x.power(0, false);
         send(x, 1, 2, DATA, PacketSpreader.NOTHING, 0);
         x.power(0, true);
+        send(x, 1, 2, DATA, PacketSpreader.REFUSAL, 0);
+    }
+
+    private static void sourceAloneTellsTheClient() {
+        PacketSpreader x = Scene.ready(1, 1, 7, 1);
+        send(x, 1, 0, GREETING, PacketSpreader.WELCOME, 0);
+        Scene.offer(x, 0x45FF05C8, 0xFFFFC000, 0x01060000, Scene.CLIENT, Scene.SERVICE);
+        send(x, 1, 1, DATA, PacketSpreader.TAKEN, 1);
+        CHECKS.due("one entry, one session under both headers", x.load(0, 0), 101);
+        Scene.offer(x, Scene.CLIENT + 1);
         send(x, 1, 2, DATA, PacketSpreader.REFUSAL, 0);
     }
 }

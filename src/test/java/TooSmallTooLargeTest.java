@@ -167,6 +167,7 @@ public final class TooSmallTooLargeTest {
         CHECKS.sentence("3: 5 the highest 8 bits of w2 are 0");
         for (int bits = 0; bits < 256; bits++) {
             dueVerdict(W0, W1, bits << 24 | 0x60000, Scene.SERVICE, bits == 0 ? 5 : 0);
+            dueVerdict(W0, W1, bits << 24 | 0x860000, Scene.SERVICE, bits == 0 ? 5 : 6);
         }
     }
 

@@ -107,11 +107,10 @@ public final class WrapTest {
         CHECKS.sentence("8: the kept header as it was when the segment was sent");
         for (int checksum : new int[] {0, 65535}) {
             PacketSpreader x = new PacketSpreader(1, 1, 7, 1);
-            int source = sourceFor(65535);
-            CHECKS.due("header(..)", x.header(0x45000028, 0, 0x40060000 | checksum, source, Scene.SERVICE), 0);
+            int[] words = {0x45000028, 0x4000, 0x40060000 | checksum, sourceFor(65535 - 0x4000), Scene.SERVICE};
+            CHECKS.due("header(..)", x.header(words[0], words[1], words[2], words[3], words[4]), 0);
             x.segment(1, 0, GREETING);
-            Scene.offer(x, 0x45000029, 0x4000, 0x41060000, 77, Scene.SERVICE);
-            int[] words = {0x45000028, 0, 0x40060000 | checksum, source, Scene.SERVICE};
+            Scene.offer(x, 0x45000029, 0x10000, 0x41060000, 77, Scene.SERVICE);
             for (int k = 0; k < 5; k++) {
                 CHECKS.due("wire(" + (6 + k) + ") with the checksum " + checksum, x.wire(6 + k), words[k]);
             }
